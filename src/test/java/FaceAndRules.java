@@ -96,17 +96,32 @@ public final class FaceAndRules {
     return s;
   }
 
+  /** Every call once or more, refused ones too: 24 calls. */
   private static void useAll(RefinedSpline s) {
+    s.begin(2);
+    s.point(1, 2, 3);
+    s.point(1, 2, 17);
+    s.knot(4);
+    s.finish();
     s.elevate();
     s.decompose();
     s.thin();
     s.insert(3);
+    s.insert(6);
     s.remove(3);
+    s.remove(0);
     s.reverse();
-    s.tessellate(1, 0, 6);
-    s.vertex(5);
-    s.locate(17, 0);
+    s.degree();
+    s.points();
+    s.knotAt(2);
+    s.control(2, 1);
+    s.span(17);
     s.basis(2, 17);
+    s.locate(17, 0);
+    s.tessellate(1, 0, 6);
+    s.tessellate(0, 0, 6);
+    s.tessellate(0, -1, 6);
+    s.vertex(5);
   }
 
   /** Rows are made once for an object, so that no run of calls fills the room. */
@@ -116,10 +131,10 @@ public final class FaceAndRules {
     long start = thread.getCurrentThreadAllocatedBytes();
     RefinedSpline s = greatest();
     long made = thread.getCurrentThreadAllocatedBytes();
-    for (int i = 0; i < 50; i++) useAll(s);
+    for (int i = 0; i < 20; i++) useAll(s);
     long used = thread.getCurrentThreadAllocatedBytes();
     if (made - start > 16_000) fault("a new object takes " + (made - start) + " bytes");
-    if (used - made > 1_000) fault("500 calls take " + (used - made) + " bytes");
+    if (used - made > 1_000) fault("480 calls take " + (used - made) + " bytes");
   }
 
   public static void main(String[] args) throws IOException {
