@@ -4,8 +4,8 @@ import java.util.List;
 
 /**
  * Every sequence of knots that a curve can have, all 1299 of them, on curves whose control points
- * are known by a formula: with X = degree * t and Y = t to the power of the degree, X of a control
- * point is the sum of its knots (those at i + 1 .. i + degree) and Y their product.
+ * are known by a formula: with X = -degree * t and Y = t to the power of the degree, X of a control
+ * point is less than 0 by the sum of its knots (those at i + 1 .. i + degree), and Y their product.
  */
 public final class EveryKnotSequence {
   private static final long UNIT = 216000L;
@@ -62,7 +62,7 @@ public final class EveryKnotSequence {
     int[] t = withEnds(degree, inner);
     due("begin", degree, inner, s.begin(degree) ? 1 : 0, 1);
     for (int i = 0; i < inner.size() + degree + 1; i++) {
-      int x = (int) symmetric(t, i, degree, 1);
+      int x = (int) -symmetric(t, i, degree, 1);
       int y = (int) symmetric(t, i, degree, degree);
       due("point", degree, inner, s.point(x, i == bumped ? y + bump : y, 1) ? 1 : 0, 1);
     }
@@ -80,7 +80,7 @@ public final class EveryKnotSequence {
     for (int i = 0; i < t.length; i++) due(what + ": knotAt(" + i + ")", degree, inner, s.knotAt(i), t[i]);
     due(what + ": knotAt behind the last", degree, inner, s.knotAt(t.length), -1);
     for (int i = 0; i < points; i++) {
-      long x = UNIT * earlier * symmetric(t, i, degree, 1) / degree;
+      long x = -UNIT * earlier * symmetric(t, i, degree, 1) / degree;
       long y = UNIT * symmetric(t, i, degree, earlier) / CHOOSE[degree][earlier];
       due(what + ": X of " + i, degree, inner, s.control(i, 0), x);
       due(what + ": Y of " + i, degree, inner, s.control(i, 1), y);
@@ -162,7 +162,7 @@ public final class EveryKnotSequence {
     for (int u = 0; u <= 360; u++) {
       long power = 1;
       for (int q = 0; q < degree; q++) power *= u;
-      due("locate " + u + " 0", degree, inner, across.locate(u, 0), Math.floorDiv(1000L * degree * u, 60L));
+      due("locate " + u + " 0", degree, inner, across.locate(u, 0), Math.floorDiv(-1000L * degree * u, 60L));
       due("locate " + u + " 1", degree, inner, up.locate(u, 1), Math.floorDiv(1000L * power, scale));
     }
   }
