@@ -2,9 +2,10 @@
  * A rational spline curve in the plane, kept in exact numbers while knots are put in and taken out,
  * its degree is raised, and it is cut into chords.
  *
- * Every control number is held as a whole number of UNITs. That is always possible: it is a value
- * of the blossom of one of the curve's polynomials at whole arguments, so it comes from whole
- * numbers by at most three divisions by 1 .. 6, or by fewer of them and one by 2 or 3.
+ * Every control number is held times UNIT, as a whole number. That is always possible: it is a value
+ * of the blossom of one of the curve's polynomials at whole arguments, and comes from the whole
+ * numbers of the draft by one division by 1 .. 6 for each degree of the draft, and one by 2 or 3 for
+ * each time the degree was raised: at most three, each by a divisor of 60, and UNIT is 60 * 60 * 60.
  */
 public final class RefinedSpline {
     public static final long UNIT = 216000L;
@@ -302,7 +303,7 @@ public final class RefinedSpline {
         private int degree;
         private int count;
         private final int[] knots = new int[MOST_KNOTS];
-        /** For each axis, the control numbers in UNITs. */
+        /** For each axis, the control numbers times UNIT. */
         private final long[][] rows = new long[AXES][MOST_POINTS];
         /** The coordinates of the point of the latest goTo, in thousandths. */
         private int across;
@@ -516,9 +517,9 @@ public final class RefinedSpline {
         }
 
         /**
-         * The blossom of the polynomial of span r at the arguments (in sixtieths), in UNITs and
-         * times 60 to the power of the degree. Every division on the way is without remainder: the
-         * blossom is whole in UNITs at whole arguments, and each argument between costs a factor 60.
+         * The blossom of the polynomial of span r at the arguments (in sixtieths), times UNIT and
+         * 60 to the power of the degree. Every division on the way is without remainder: times UNIT
+         * the blossom is whole at whole arguments, and each argument between costs a factor 60.
          */
         private long blossom(int axis, int r) {
             for (int j = 0; j <= degree; j++) {

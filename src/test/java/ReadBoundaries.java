@@ -230,6 +230,32 @@ public final class ReadBoundaries {
         -16L * 64000 * 1000, 16L * 64000 * 1000, 16 * UNIT);
   }
 
+  /** A cubic that goes up, down and up again: its blossom at three whole numbers. */
+  private static int swing(int a, int b, int c) {
+    return 108 * a * b * c - 324 * (a * b + b * c + c * a) + 729 * (a + b + c) - 729;
+  }
+
+  private static void controlFartherThanAnyDraft() {
+    Runs.sentence("Terms", "All numbers are exact.");
+    String run = "begin 3";
+    for (int i = 0; i < 19; i++) {
+      int x = swing((i + 2) / 3, (i + 1) / 3, i / 3);
+      run = Runs.join(run, "point " + x + " " + -x + " 16");
+    }
+    run = Runs.join(run, States.everyKnot(3), "finish");
+    Runs.dueAll(run, "control 1 0; control 9 0; control 17 0", 0, 0, 0);
+    Runs.due(run, "thin", 15);
+    // The draft's own limit would be 1000.
+    Runs.dueAll(Runs.join(run, "thin"), "control 0 0; control 1 0; control 2 0; control 3 0; control 1 1; control 2 1",
+        -729 * 16 * UNIT, 3645 * 16 * UNIT, -3645 * 16 * UNIT, 729 * 16 * UNIT, -3645 * 16 * UNIT, 3645 * 16 * UNIT);
+    for (int u = 0; u <= 360; u++) {
+      long scaled = 108L * u * u * u - 324L * 3 * 60 * u * u + 729L * 3 * 3600 * u - 729L * 216000;
+      Runs.dueAll(Runs.join(run, "thin"), "locate " + u + " 0; locate " + u + " 1",
+          Math.floorDiv(1000 * scaled, 216000L), Math.floorDiv(-1000 * scaled, 216000L));
+    }
+    Runs.same(run, Runs.join(run, "thin; insert 1; insert 2; insert 3; insert 4; insert 5; decompose"));
+  }
+
   public static void main(String[] args) {
     degreeOfNoCurve();
     pointsOfNoCurve();
@@ -251,6 +277,7 @@ public final class ReadBoundaries {
     locateOfNoAxis();
     locateRoundsDown();
     locateTheFarthest();
+    controlFartherThanAnyDraft();
     Runs.end("ReadBoundaries");
   }
 }
