@@ -144,6 +144,21 @@ public final class ChangeBoundaries {
     Runs.refused(Runs.join(States.CUT, weights(2, "3", 8, 4, 4, 8), "tessellate 0 0 2; begin 3"), "remove 3", 0);
   }
 
+  private static void removeDownToHalfAWeight() {
+    Runs.sentence("Promise 7", "and all of whose weights are more than 0");
+    // Without the knot 2, weight 1 is (3 * weight 1 - weight 0) / 2.
+    String half = weights(3, "2 3", 2, 1, 1, 2, 2, 3);
+    String found = "points; control 0 2; control 1 2; control 2 2; control 3 2; control 4 2";
+    Runs.due(half, "remove 2", 1);
+    Runs.dueAll(Runs.join(half, "remove 2"), found, 5, 2 * UNIT, UNIT / 2, 2 * UNIT, 2 * UNIT, 3 * UNIT);
+    keepsItsPlaces(half, "remove 2");
+    Runs.due(Runs.join(half, "reverse"), "remove 4", 1);
+    Runs.same(Runs.join(half, "remove 2; reverse"), Runs.join(half, "reverse; remove 4"));
+    String less = weights(3, "2 3", 4, 1, 1, 3, 1, 3);
+    Runs.refused(less, "remove 2", 0);
+    Runs.refused(Runs.join(less, "reverse"), "remove 4", 0);
+  }
+
   private static void removeWithoutCurve() {
     Runs.sentence("Promise 7", "false when .. there is no curve");
     for (String state : States.WITHOUT_CURVE) {
@@ -329,6 +344,7 @@ public final class ChangeBoundaries {
     removeTheLast();
     removeOfAnotherShape();
     removeDownToNoWeight();
+    removeDownToHalfAWeight();
     removeWithoutCurve();
     removeOfNoKnot();
     decomposeUntilDegreeTimes();
